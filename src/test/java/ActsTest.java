@@ -176,6 +176,12 @@ public final class ActsTest {
         x.arg(Check.INT, 2);
         x.give(Check.THING, -1);
         direct(x, "none into truth", 0, Check.INT, Check.NULL, 0);
+        x.method(0, 2, 1, 3, Check.shape(Check.INT, Check.ROW, Check.FLOAT, Check.DOUBLE));
+        x.give(Check.ROW, 0);
+        x.arg(Check.FLOAT, Float.floatToRawIntBits(1.9f));
+        x.arg(Check.DOUBLE, Double.doubleToRawLongBits(3.5));
+        direct(x, "floats", 3, Check.INT, 1, 3);
+        Check.due("at a place", x.told(0, 2, 1), 1);
         putThing(x, 1, 0, 2, 1);
         Check.due("put", x.told(1, 2, 0), 2);
         putThing(x, 1, 0, -1, 1);

@@ -153,7 +153,15 @@ public final class HandlesTest {
         Check.due("14 as thing", x.run(x.as(first, Check.shape(L, Check.BOX + I)), true, L), 1);
         Check.due("14 the first", x.result(2), 2);
         x.arg(Check.BOX + L, 12);
-        Check.due("14 a box of it", x.shape(x.bind(h, 0)), Check.shape(L, T));
+        int unboxed = x.bind(h, 0);
+        Check.due("14 a box of it", x.shape(unboxed), Check.shape(L, T));
+        x.row(INTS, 5);
+        x.give(T, 0);
+        runs(x, "14 out of a box", unboxed, L, 2, 2);
+        ints(x, 1, 2, 3, 4, 5);
+        x.arg(L, 20);
+        Check.due("14 of six", x.shape(x.bind(h, 0)), Check.shape(L, T));
+        Check.due("14 five are left", x.forget(), 5);
         x.give(T, -1);
         Check.due("14 none to a reference", x.shape(x.bind(h, 1)), Check.shape(L, L));
     }
@@ -378,6 +386,11 @@ public final class HandlesTest {
         Check.due("21 unknown g", x.caught(h, 0, 99), Check.UNKNOWN);
         Check.due("21 below", x.caught(h, -1, g), Check.OUTSIDE);
         Check.due("21 spent cannot be caught", x.caught(h, 9, g), Check.OUTSIDE);
+        int misfit = x.caught(x.spread(h, Check.CLASS_ROW, 1), 8, g);
+        x.row(Check.CLASS_ROW, 2);
+        x.arg(I, 50);
+        x.give(Check.CLASS_ROW, 2);
+        runs(x, "21 misfit is caught", misfit, I, 1058, 3);
         Check.due("21 result", x.caught(h, 0, summing(x, Check.shape(L, I))), Check.WRONG_TYPE);
         Check.due("21 no number", x.caught(h, 0, summing(x, Check.shape(I, L))), Check.WRONG_TYPE);
         Check.due("21 no parameters", x.caught(h, 0, summing(x, Check.shape(I))), Check.WRONG_TYPE);

@@ -138,7 +138,7 @@ public final class RunsTest {
         x.give(T, 0);
         x.run(0, true, T);
         Check.due("34 has a number", x.keep(), 0);
-        x.arg(I, 5);
+        x.arg(I, 1);
         x.run(0, false, I);
         Check.due("34 plain", x.result(1), I);
         Check.due("34 plain cannot be kept", x.keep(), Check.STATE);
