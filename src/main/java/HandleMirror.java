@@ -169,7 +169,12 @@ public final class HandleMirror {
         if (how < Handle.VIRTUAL || how > Handle.SETTER) return false;
         if (!Kinds.isClassNumber(c) || !Kinds.isClassNumber(asker) || !Shapes.isShape(shape)) return false;
         if (how == Handle.MAKER) return Shapes.resultOf(shape) == Kinds.NOTHING;
-        return isName(name) && (how < Handle.MAKER || Shapes.sizeOf(shape) == 0);
+        return isName(name) && (how < Handle.MAKER || isFieldShape(shape));
+    }
+
+    /** A field is asked for by its kind as a result, and NOTHING is no field's kind. */
+    private static boolean isFieldShape(long shape) {
+        return Shapes.sizeOf(shape) == 0 && Kinds.isHeld(Shapes.resultOf(shape));
     }
 
     private Handle handleAt(int h) {

@@ -5,6 +5,8 @@ public final class FindTest {
 
     public static void main(String[] args) {
         outside();
+        fieldsOfNothing();
+        fieldKinds();
         virtual();
         statics();
         special();
@@ -37,6 +39,37 @@ public final class FindTest {
         Check.due("a maker's result", x.find(MAKER, 0, 0, INT, 0), Check.OUTSIDE);
         Check.due("special ahead of none", x.find(SPECIAL, 1, 0, INT, 0), Check.NO_ACCESS);
         Check.due("outside ahead of special", x.find(SPECIAL, 1, 16, INT, 0), Check.OUTSIDE);
+    }
+
+    /** NOTHING is no field's kind: this comes ahead of whether there is a field, and of who may use it. */
+    private static void fieldsOfNothing() {
+        HandleMirror x = new HandleMirror();
+        x.field(0, 0, 0, Check.INT);
+        x.field(0, 1, Check.PRIVATE | Check.FINAL, Check.INT);
+        x.field(0, 2, Check.STATIC, Check.INT);
+        for (int how = GETTER; how <= SETTER; how++) {
+            for (int name = 0; name < 16; name++) {
+                for (int c = 0; c < 5; c++) {
+                    Check.due("field of nothing " + how + " " + name, x.find(how, c, name, NONE, 4), Check.OUTSIDE);
+                }
+            }
+            Check.due("with a parameter " + how, x.find(how, 0, 0, Check.shape(Check.NOTHING, Check.INT), 0), Check.OUTSIDE);
+        }
+        Check.due("no handles came", x.count(2), 0);
+    }
+
+    /** Of all that a shape's lowest byte can say, the kinds of fields alone may be asked for. */
+    private static void fieldKinds() {
+        HandleMirror x = new HandleMirror();
+        for (int kind = 0; kind < 255; kind++) {
+            if (kind == 128) x = new HandleMirror();
+            int want = Check.OUTSIDE;
+            for (int known : Check.KINDS) {
+                if (known == kind && kind != Check.NOTHING) want = Check.NO_FIELD;
+            }
+            Check.due("kind of a getter " + kind, x.find(GETTER, 0, 5, Check.shape(kind), 0), want);
+            Check.due("kind of a setter " + kind, x.find(SETTER, 0, 5, Check.shape(kind), 0), want);
+        }
     }
 
     /** Two classes have the method; LAST has a static one, FAR a private one. */
