@@ -1,56 +1,79 @@
+import java.util.ArrayList;
+import java.util.List;
 import java.util.Random;
 
-/** Any calls with any numbers: none throws, a refused one changes nothing, the same calls give the same answers. */
-public final class AnyCallsTest {
+/**
+ * Any calls with any numbers: none throws, the same calls give the same answers, and calls that are refused, or that
+ * ask, change nothing: without them the others answer as before, and all that can be asked is the same in the end.
+ */
+public final class AnyCallsTest extends Bounds {
     private static final int[] EDGES = {Integer.MIN_VALUE, Integer.MAX_VALUE, -1, -2, 0, 1, 2, 5, 6, 7, 8, 15, 16, 24, 60, 61, 255};
 
     private final Random random;
     private final HandleMirror x = new HandleMirror();
+    // hears the same calls, and is asked what to call next, so that x hears the calls alone
+    private final HandleMirror shadow = new HandleMirror();
+    private final List<Call> calls = new ArrayList<>();
+    private final List<Long> answers = new ArrayList<>();
+    private final List<Boolean> silent = new ArrayList<>();
 
     private AnyCallsTest(int seed) {
         random = new Random(seed);
     }
 
     public static void main(String[] args) {
-        for (int seed = 0; seed < 1500; seed++) {
-            String first = new AnyCallsTest(seed).play(seed, true);
-            Check.due("the same again, seed " + seed, first.equals(new AnyCallsTest(seed).play(seed, false)) ? 1 : 0, 1);
+        sentence("Terms", "they change nothing. (What is told as minus a FAILURE likewise, but of RUNS.)");
+        for (int seed = 0; seed < 3000; seed++) {
+            AnyCallsTest test = new AnyCallsTest(seed);
+            while (test.calls.size() < 150) test.call(test.random.nextInt(48));
+            String end = asked(test.x);
+            due("the same again, seed " + seed, test.again(seed, true).equals(end) ? 1 : 0, 1);
+            due("the same without refused calls, seed " + seed, test.again(seed, false).equals(end) ? 1 : 0, 1);
         }
         for (int seed = 0; seed < 20; seed++) new AnyCallsTest(seed).playLong();
         Check.end("AnyCallsTest");
     }
 
-    private String play(int seed, boolean compared) {
-        StringBuilder answers = new StringBuilder();
-        for (int i = 0; i < 250; i++) {
-            String before = compared ? Check.state(x) : "";
-            int call = random.nextInt(48);
-            long answer = call(call);
-            answers.append(answer).append(' ');
-            if (compared && isRefused(call, answer)) {
-                Check.due("unchanged, seed " + seed + " call " + i, before.equals(Check.state(x)) ? 1 : 0, 1);
-            }
-            if (call >= 36 && call < 42 && answer >= 0) Check.due("a run brought something, seed " + seed, answer, 1);
+    /** All calls again, or all but those that change nothing; what can be asked in the end. */
+    private String again(int seed, boolean all) {
+        HandleMirror y = new HandleMirror();
+        for (int i = 0; i < calls.size(); i++) {
+            if (all || !silent.get(i)) due("seed " + seed + " call " + i, calls.get(i).on(y), answers.get(i));
         }
-        return answers.toString();
+        return asked(y);
     }
 
     /** What later calls answer is free; they must not throw all the same. */
     private void playLong() {
         for (int i = 0; i < 20000; i++) call(random.nextInt(48));
-        Check.due("not too many things", x.count(0) <= 60 ? 1 : 0, 1);
-        Check.due("not too many made", x.count(4) <= 8000 ? 1 : 0, 1);
+        due("not too many things", x.count(0) <= 60 ? 1 : 0, 1);
+        due("not too many made", x.count(4) <= 8000 ? 1 : 0, 1);
     }
 
-    /** A run may end by a failure, and has changed what it changed; some calls here are several ones. */
-    private static boolean isRefused(int call, long answer) {
-        boolean isRun = call >= 36 && call < 42;
-        if (call == 13 || call >= 36 && call < 40) return false;
-        return answer <= HandleMirror.UNKNOWN || !isRun && answer < 0 || isTelling(call);
+    /** A call that is refused by an answer below 0. */
+    private void act(Call call) {
+        heard(call, false);
     }
 
-    private static boolean isTelling(int call) {
-        return call == 6 || call == 35 || call == 42 || call == 44 || call == 45;
+    /** A call that asks, and is told any number. */
+    private void ask(Call call) {
+        heard(call, true);
+    }
+
+    /** A run, which may end by a failure, and has changed what it changed. */
+    private void work(Call call) {
+        long answer = heard(call, false);
+        silent.set(silent.size() - 1, answer <= UNKNOWN);
+        if (answer >= 0) due("a run brought something", answer, 1);
+    }
+
+    private long heard(Call call, boolean asks) {
+        long answer = call.on(x);
+        call.on(shadow);
+        calls.add(call);
+        answers.add(answer);
+        silent.add(asks || answer < 0);
+        return answer;
     }
 
     private int number(int most) {
@@ -74,86 +97,112 @@ public final class AnyCallsTest {
     }
 
     private int handle() {
-        return number(Math.max(x.count(2) - 1, 0));
+        return number(Math.max(shadow.count(2) - 1, 0));
     }
 
-    private long call(int call) {
-        if (call < 12) return thingsAndMembers(call);
-        if (call < 24) return handles(call);
-        return more(call);
+    private void call(int call) {
+        if (call < 12) thingsAndMembers(call);
+        else if (call < 24) handles(call);
+        else more(call);
     }
 
-    private long thingsAndMembers(int call) {
+    private void thingsAndMembers(int call) {
+        int a = number(4);
+        int b = number(15);
+        int kind = kind();
+        long shape = shape(4);
         switch (call) {
-            case 0: return x.object(number(4), number(9));
-            case 1: return x.row(row(), number(8));
-            case 2: case 3: return x.arg(kind(), random.nextLong() >> random.nextInt(64));
-            case 4: return x.give(kind(), number(Math.max(x.count(0), 1)) - 1);
-            case 5: return x.forget();
-            case 6: return x.told(number(60) - 1, number(3), number(24));
-            case 7: return x.nest(number(4), number(4));
-            case 8: case 9: return x.method(number(4), number(15), number(7), number(7), shape(4));
-            case 10: return x.field(number(4), number(15), number(11), kind());
-            default: return x.maker(number(4), number(6), shape(4) & ~255L | 9);
+            case 0: act(y -> y.object(a, b)); break;
+            case 1: int row = row(); int n = number(8); act(y -> y.row(row, n)); break;
+            case 2: case 3: long bits = random.nextLong() >> random.nextInt(64); act(y -> y.arg(kind, bits)); break;
+            case 4: int thing = number(Math.max(shadow.count(0), 1)) - 1; act(y -> y.give(kind, thing)); break;
+            case 5: act(HandleMirror::forget); break;
+            case 6: int told = number(10) - 1; int i = number(24); ask(y -> y.told(told, a, i)); break;
+            case 7: int nest = number(4); act(y -> y.nest(a, nest)); break;
+            case 8: case 9: int m = number(7); int act = number(7); act(y -> y.method(a, b, m, act, shape)); break;
+            case 10: int marks = number(11); act(y -> y.field(a, b, marks, kind)); break;
+            default: int mark = number(6); act(y -> y.maker(a, mark, shape & ~255L | 9));
         }
     }
 
-    private long handles(int call) {
+    private void handles(int call) {
+        int h = handle();
+        int g = handle();
+        int at = number(3);
+        int kind = kind();
         switch (call) {
-            case 12: return x.find(number(5), number(4), number(15), shape(4), number(4));
-            case 13: return findKnown();
-            case 14: return x.as(handle(), shape(6));
-            case 15: return x.bind(handle(), number(3));
-            case 16: return x.drop(handle(), number(3), kind());
-            case 17: return x.permute(handle(), number(222), shape(6));
-            case 18: return x.filter(handle(), number(3), handle());
-            case 19: return x.fold(handle(), handle());
-            case 20: return x.after(handle(), handle());
-            case 21: return x.guard(handle(), handle(), handle());
-            case 22: return x.caught(handle(), number(8), handle());
-            default: return x.spread(handle(), row(), number(3));
+            case 12: found(); break;
+            case 13: findKnown(); break;
+            case 14: long as = shape(6); act(y -> y.as(h, as)); break;
+            case 15: act(y -> y.bind(h, at)); break;
+            case 16: act(y -> y.drop(h, at, kind)); break;
+            case 17: int order = number(222); long shape = shape(6); act(y -> y.permute(h, order, shape)); break;
+            case 18: act(y -> y.filter(h, at, g)); break;
+            case 19: act(y -> y.fold(h, g)); break;
+            case 20: act(y -> y.after(h, g)); break;
+            case 21: int test = handle(); act(y -> y.guard(test, h, g)); break;
+            case 22: int failure = number(8); act(y -> y.caught(h, failure, g)); break;
+            default: int row = row(); act(y -> y.spread(h, row, at));
         }
     }
 
-    private long findKnown() {
+    private void found() {
+        int how = number(5);
+        int c = number(4);
+        int name = number(15);
+        int asker = number(4);
+        long shape = shape(4);
+        act(y -> y.find(how, c, name, shape, asker));
+    }
+
+    private void findKnown() {
         long shape = shape(2);
-        x.method(0, 1, 1, 0, shape);
-        return x.find(1, 0, 1, shape, 0);
+        act(y -> y.method(0, 1, 1, 0, shape));
+        act(y -> y.find(1, 0, 1, shape, 0));
     }
 
-    private long more(int call) {
+    private void more(int call) {
+        int h = handle();
+        int g = handle();
+        int n = number(3);
+        int row = row();
+        int kind = kind();
         switch (call) {
-            case 24: return x.collect(handle(), row(), number(3));
-            case 25: case 26: return x.varied(handle());
-            case 27: return x.element(number(3), row());
-            case 28: return x.constant();
-            case 29: case 30: return x.same(kind());
-            case 31: case 32: return x.site(handle());
-            case 33: case 34: return x.target(handle(), handle());
-            case 35: return x.shape(handle());
-            case 36: case 37: return fitted(random.nextInt(60), true);
-            case 38: case 39: return fitted(random.nextInt(60), false);
-            case 40: return x.run(handle(), random.nextBoolean(), kind());
-            case 41: return x.direct(number(23), kind());
-            case 42: return x.result(number(2));
-            case 43: return x.keep();
-            case 44: return x.last(number(3));
-            case 45: return x.count(number(20));
-            default: return x.arg(random.nextInt(8), random.nextInt(5));
+            case 24: act(y -> y.collect(h, row, n)); break;
+            case 25: case 26: act(y -> y.varied(h)); break;
+            case 27: act(y -> y.element(n, row)); break;
+            case 28: act(HandleMirror::constant); break;
+            case 29: case 30: act(y -> y.same(kind)); break;
+            case 31: case 32: act(y -> y.site(h)); break;
+            case 33: case 34: act(y -> y.target(h, g)); break;
+            case 35: ask(y -> y.shape(h)); break;
+            case 36: case 37: fitted(random.nextInt(60), true); break;
+            case 38: case 39: fitted(random.nextInt(60), false); break;
+            case 40: boolean exact = random.nextBoolean(); work(y -> y.run(h, exact, kind)); break;
+            case 41: int m = number(23); work(y -> y.direct(m, kind)); break;
+            case 42: ask(y -> y.result(n)); break;
+            case 43: act(HandleMirror::keep); break;
+            case 44: ask(y -> y.last(n)); break;
+            case 45: int what = number(20); ask(y -> y.count(what)); break;
+            default: int plain = random.nextInt(8); int bits = random.nextInt(5); act(y -> y.arg(plain, bits));
         }
     }
 
     /** A run with values of the kinds that the handle asks for, if there is such a handle. */
-    private long fitted(int h, boolean exact) {
-        long shape = x.shape(h);
-        if (shape < 0) return x.run(h, exact, 4);
-        x.forget();
-        for (int i = 1; i < 7; i++) {
+    private void fitted(int h, boolean exact) {
+        long shape = shadow.shape(h);
+        act(HandleMirror::forget);
+        for (int i = 1; i < 7 && shape >= 0; i++) {
             int kind = (int) (shape >>> 8 * i & 255) - 1;
             if (kind < 0) break;
-            if (kind < 8 || kind >= 10 && kind < 18 && random.nextBoolean()) x.arg(kind, random.nextInt(5));
-            else if (x.give(kind, random.nextInt(Math.max(x.count(0), 1))) < 0) x.give(kind, -1);
+            int bits = random.nextInt(5);
+            int thing = random.nextInt(Math.max(shadow.count(0), 1));
+            boolean plain = kind < 8 || kind >= 10 && kind < 18 && random.nextBoolean();
+            if (plain) act(y -> y.arg(kind, bits));
+            else act(y -> y.give(kind, thing));
+            if (!plain && answers.get(answers.size() - 1) < 0) act(y -> y.give(kind, NONE));
         }
-        return x.run(h, exact, (int) (shape & 255) - 1);
+        int result = shape < 0 ? INT : (int) (shape & 255) - 1;
+        work(y -> y.run(h, exact, result));
     }
 }

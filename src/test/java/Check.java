@@ -1,5 +1,5 @@
 /** What the tests share: a comparison that is counted, shapes, and the end of a test. */
-final class Check {
+abstract class Check {
     static final int TRUTH = 0, BYTE = 1, SHORT = 2, CHAR = 3, INT = 4, LONG = 5, FLOAT = 6, DOUBLE = 7;
     static final int NOTHING = 8, THING = 9, BOX = 10, NUMBER = 18, ROW = 20;
     static final int BASE = 30, LEFT = 31, RIGHT = 32, LAST = 33, FAR = 34, CLASS_ROW = 40;
@@ -15,14 +15,26 @@ final class Check {
     private static int compared = 0;
     private static int wrong = 0;
 
-    private Check() {
-    }
-
     static void due(String what, long got, long want) {
         compared++;
         if (got == want) return;
         wrong++;
         if (wrong <= 50) System.out.println(what + ": got " + got + ", due is " + want);
+    }
+
+    static boolean isKind(int kind) {
+        for (int known : KINDS) {
+            if (known == kind) return true;
+        }
+        return false;
+    }
+
+    static boolean isReference(int kind) {
+        return kind > NOTHING && isKind(kind);
+    }
+
+    static boolean isRow(int kind) {
+        return isKind(kind) && (kind >= ROW && kind < BASE || kind >= CLASS_ROW);
     }
 
     static long shape(int result, int... parameters) {

@@ -158,6 +158,7 @@ public final class MirrorTest {
     private final List<Integer> costs = new ArrayList<>();
     private final List<MutableCallSite> sites = new ArrayList<>();
     private final List<Object> things = new ArrayList<>();
+    private int calls;
     private static int ran;
     private static int brought;
 
@@ -166,23 +167,30 @@ public final class MirrorTest {
     }
 
     public static void main(String[] args) {
-        for (int seed = 0; seed < 700; seed++) new MirrorTest(seed).play(seed);
+        for (int seed = 0; seed < 1800; seed++) new MirrorTest(seed).play(seed);
         System.out.println("MirrorTest: " + ran + " runs, " + brought + " brought something");
         Check.due("many runs bring something", brought > ran / 5 ? 1 : 0, 1);
         Check.due("many fail", ran - brought > ran / 10 ? 1 : 0, 1);
         Check.end("MirrorTest");
     }
 
+    /** The object at hand, which is used for a call. */
+    private HandleMirror x() {
+        calls++;
+        return x;
+    }
+
     private void play(int seed) {
         makeThings();
         for (int i = 0; i < 14; i++) addMethod();
         for (int i = 0; i < 30; i++) {
-            for (int attempt = 0; attempt < 20; attempt++) {
+            for (int attempt = 0; attempt < 20 && calls < 250; attempt++) {
                 if (combine("seed " + seed)) break;
             }
         }
-        for (int i = 0; i < 40; i++) run("seed " + seed + " run " + i);
-        Check.due("seed " + seed + " handles", x.count(2), handles.size());
+        // what an object answers after 512 calls is free, and no run with its comparisons takes more than 60
+        for (int i = 0; calls < 440; i++) run("seed " + seed + " run " + i);
+        Check.due("seed " + seed + " handles", x().count(2), handles.size());
     }
 
     static Class<?> classOf(int kind) {
@@ -263,7 +271,7 @@ public final class MirrorTest {
         int[] kinds = {30, 31, 32, 33, 34, 40, 41, 43, 24, 24};
         for (int i = 0; i < kinds.length; i++) {
             int n = random.nextInt(4);
-            int number = kinds[i] >= 30 && kinds[i] < 40 ? x.object(kinds[i] - 30, n) : x.row(kinds[i], n);
+            int number = kinds[i] >= 30 && kinds[i] < 40 ? x().object(kinds[i] - 30, n) : x().row(kinds[i], n);
             Check.due("thing", number, things.size());
             things.add(madeThing(n, kinds[i]));
         }
@@ -271,7 +279,7 @@ public final class MirrorTest {
 
     private void add(int number, MethodHandle handle, int cost, String what) {
         Check.due(what, number, handles.size());
-        Check.due(what + ": shape", x.shape(number), shapeOf(handle.type()));
+        Check.due(what + ": shape", x().shape(number), shapeOf(handle.type()));
         handles.add(handle);
         costs.add(cost);
         sites.add(null);
@@ -291,15 +299,15 @@ public final class MirrorTest {
             result = result < 9 ? 30 : result;
         }
         boolean isStatic = act != 6 && random.nextBoolean();
-        Method method = new Method(x.count(1), isStatic, act, result, parameters);
+        Method method = new Method(x().count(1), isStatic, act, result, parameters);
         long shape = Check.shape(result, parameters);
-        int name = x.count(1);
-        Check.due("method", x.method(0, name, isStatic ? 1 : 0, act, shape), name);
+        int name = x().count(1);
+        Check.due("method", x().method(0, name, isStatic ? 1 : 0, act, shape), name);
         MethodType type = MethodType.methodType(classOf(result));
         if (!isStatic) type = type.appendParameterTypes(Base.class);
         for (int kind : parameters) type = type.appendParameterTypes(classOf(kind));
         MethodHandle handle = WORK.bindTo(method).asCollector(Object[].class, type.parameterCount()).asType(type);
-        add(x.find(isStatic ? 1 : 0, 0, name, shape, 0), handle, 1, "method");
+        add(x().find(isStatic ? 1 : 0, 0, name, shape, 0), handle, 1, "method");
     }
 
     private int any() {
@@ -323,46 +331,46 @@ public final class MirrorTest {
                 if (size == 6) return false;
                 int kind = kind();
                 MethodHandle made = MethodHandles.dropArguments(handle, at, classOf(kind));
-                add(x.drop(h, at, kind), made, cost, what + " drop");
+                add(x().drop(h, at, kind), made, cost, what + " drop");
                 return true;
             }
             case 3: return permuteAny(h, handle, cost, what);
             case 4: {
                 if (size == 0) return false;
                 MethodHandle made = tried(() -> MethodHandles.filterArguments(handle, at, handles.get(g)));
-                return sameAnswer(made, () -> x.filter(h, at, g), pair, what + " filter");
+                return sameAnswer(made, () -> x().filter(h, at, g), pair, what + " filter");
             }
             case 5: {
                 MethodHandle made = tried(() -> MethodHandles.foldArguments(handle, handles.get(g)));
-                return sameAnswer(made, () -> x.fold(h, g), pair, what + " fold");
+                return sameAnswer(made, () -> x().fold(h, g), pair, what + " fold");
             }
             case 6: {
                 MethodHandle made = tried(() -> MethodHandles.filterReturnValue(handle, handles.get(g)));
-                return sameAnswer(made, () -> x.after(h, g), pair, what + " after");
+                return sameAnswer(made, () -> x().after(h, g), pair, what + " after");
             }
             case 7: {
                 int test = any();
                 MethodHandle made = tried(() -> MethodHandles.guardWithTest(handles.get(test), handle, handles.get(g)));
-                return sameAnswer(made, () -> x.guard(test, h, g), pair + costs.get(test), what + " guard");
+                return sameAnswer(made, () -> x().guard(test, h, g), pair + costs.get(test), what + " guard");
             }
             case 8: {
                 int failure = random.nextInt(9);
                 MethodHandle made = tried(() -> catching(handle, failure, handles.get(g)));
-                return sameAnswer(made, () -> x.caught(h, failure, g), pair, what + " caught");
+                return sameAnswer(made, () -> x().caught(h, failure, g), pair, what + " caught");
             }
             case 9: {
                 int n = random.nextInt(size + 1);
                 int row = kind();
                 if (row != 24 && row < 40 || size - n >= 6) return false;
                 MethodHandle made = tried(() -> spread(handle, classOf(row), n));
-                return sameAnswer(made, () -> x.spread(h, row, n), cost, what + " spread");
+                return sameAnswer(made, () -> x().spread(h, row, n), cost, what + " spread");
             }
             case 10: {
                 int n = random.nextInt(4);
                 int row = kind();
                 if (row != 24 && row < 40 || size == 0 || size - 1 + n > 6) return false;
                 MethodHandle made = tried(() -> collected(handle, classOf(row), n));
-                return sameAnswer(made, () -> x.collect(h, row, n), cost, what + " collect");
+                return sameAnswer(made, () -> x().collect(h, row, n), cost, what + " collect");
             }
             case 11: return elements(what);
             case 12: return addSite(h, handle, cost, what);
@@ -408,19 +416,19 @@ public final class MirrorTest {
         }
         MethodType asked = type;
         if (asked.equals(handle.type())) {
-            Check.due(what + " as itself", x.as(h, shapeOf(asked)), h);
+            Check.due(what + " as itself", x().as(h, shapeOf(asked)), h);
             return false;
         }
-        return sameAnswer(tried(() -> turned(handle, asked)), () -> x.as(h, shapeOf(asked)), cost, what + " as");
+        return sameAnswer(tried(() -> turned(handle, asked)), () -> x().as(h, shapeOf(asked)), cost, what + " as");
     }
 
     private boolean bindOne(int h, MethodHandle handle, int at, int cost, String what) {
         if (at >= handle.type().parameterCount()) return false;
         Class<?> type = handle.type().parameterType(at);
-        x.forget();
+        x().forget();
         Object value = give(kindOf(type));
         MethodHandle made = MethodHandles.insertArguments(handle, at, value);
-        add(x.bind(h, at), made, cost, what + " bind");
+        add(x().bind(h, at), made, cost, what + " bind");
         return true;
     }
 
@@ -442,7 +450,7 @@ public final class MirrorTest {
             digits += power * place;
             power *= 10;
         }
-        add(x.permute(h, digits, shapeOf(type)), MethodHandles.permuteArguments(handle, type, order), cost, what + " permute");
+        add(x().permute(h, digits, shapeOf(type)), MethodHandles.permuteArguments(handle, type, order), cost, what + " permute");
         return true;
     }
 
@@ -450,19 +458,19 @@ public final class MirrorTest {
         int[] rows = {24, 40, 41};
         int row = rows[random.nextInt(3)];
         switch (random.nextInt(6)) {
-            case 0: add(x.element(0, row), MethodHandles.arrayElementGetter(classOf(row)), 1, what + " get"); break;
-            case 1: add(x.element(1, row), MethodHandles.arrayElementSetter(classOf(row)), 1, what + " set"); break;
-            case 2: add(x.element(2, row), MethodHandles.arrayLength(classOf(row)), 1, what + " length"); break;
+            case 0: add(x().element(0, row), MethodHandles.arrayElementGetter(classOf(row)), 1, what + " get"); break;
+            case 1: add(x().element(1, row), MethodHandles.arrayElementSetter(classOf(row)), 1, what + " set"); break;
+            case 2: add(x().element(2, row), MethodHandles.arrayLength(classOf(row)), 1, what + " length"); break;
             case 3: {
                 int kind = kind();
-                add(x.same(kind), MethodHandles.identity(classOf(kind)), 1, what + " same");
+                add(x().same(kind), MethodHandles.identity(classOf(kind)), 1, what + " same");
                 break;
             }
             case 4: {
-                x.forget();
+                x().forget();
                 int kind = kind();
                 Object value = give(kind);
-                add(x.constant(), MethodHandles.constant(classOf(kind), value), 1, what + " constant");
+                add(x().constant(), MethodHandles.constant(classOf(kind), value), 1, what + " constant");
                 break;
             }
             default: return false;
@@ -472,7 +480,7 @@ public final class MirrorTest {
 
     private boolean addSite(int h, MethodHandle handle, int cost, String what) {
         MutableCallSite site = new MutableCallSite(handle);
-        add(x.site(h), site.dynamicInvoker(), cost, what + " site");
+        add(x().site(h), site.dynamicInvoker(), cost, what + " site");
         sites.set(sites.size() - 1, site);
         return true;
     }
@@ -482,7 +490,7 @@ public final class MirrorTest {
             // not one that costs more than what the site was reckoned with
             if (sites.get(s) == null || costs.get(h) >= costs.get(s)) continue;
             if (!handle.type().equals(sites.get(s).type())) continue;
-            Check.due(what + " target", x.target(s, h) >= 0 ? 1 : 0, 1);
+            Check.due(what + " target", x().target(s, h) >= 0 ? 1 : 0, 1);
             sites.get(s).setTarget(handle);
             return true;
         }
@@ -494,22 +502,22 @@ public final class MirrorTest {
         long n = random.nextInt(5) - 1;
         if (kind < 8) {
             long bits = kind == 7 ? Double.doubleToRawLongBits((double) n) : n;
-            x.arg(kind, bits);
+            x().arg(kind, bits);
             return made(n, kind);
         }
         if (kind >= 10 && kind < 18 && random.nextInt(6) != 0) {
-            x.arg(kind, n);
+            x().arg(kind, n);
             return made(n, kind);
         }
         int from = random.nextInt(things.size());
         for (int i = 0; i < things.size() && random.nextInt(10) != 0; i++) {
             int thing = (from + i) % things.size();
             if (classOf(kind).isInstance(things.get(thing))) {
-                x.give(kind, thing);
+                x().give(kind, thing);
                 return things.get(thing);
             }
         }
-        x.give(kind, -1);
+        x().give(kind, -1);
         return null;
     }
 
@@ -519,7 +527,7 @@ public final class MirrorTest {
         boolean exact = random.nextBoolean();
         MethodType asked = MethodType.methodType(type.returnType());
         List<Object> values = new ArrayList<>();
-        x.forget();
+        x().forget();
         for (int i = 0; i < type.parameterCount(); i++) {
             int own = kindOf(type.parameterType(i));
             int kind = !exact && own >= 9 && random.nextInt(3) == 0 ? kind() : own;
@@ -529,7 +537,7 @@ public final class MirrorTest {
         if (!exact && random.nextInt(3) == 0) asked = asked.changeReturnType(classOf(kind()));
         MethodType goal = asked;
         MethodHandle handle = exact ? handles.get(h) : tried(() -> turned(handles.get(h), goal));
-        int answer = x.run(h, exact, kindOf(asked.returnType()));
+        int answer = x().run(h, exact, kindOf(asked.returnType()));
         if (handle == null) {
             Check.due(what + " refused", answer, Check.WRONG_TYPE);
             return;
@@ -552,8 +560,8 @@ public final class MirrorTest {
         Class<?> type = handle.type().returnType();
         if (type != void.class) {
             int kind = type.isPrimitive() ? kindOf(type) : result == null ? -1 : kindOf(result.getClass());
-            Check.due(what + ": kind", x.result(1), kind);
-            Check.due(what + ": bits", x.result(2), result == null ? 0 : bitsOf(result));
+            Check.due(what + ": kind", x().result(1), kind);
+            Check.due(what + ": bits", x().result(2), result == null ? 0 : bitsOf(result));
         }
         sameThings(what);
     }
@@ -567,12 +575,12 @@ public final class MirrorTest {
     private void sameThings(String what) {
         for (int thing = 0; thing < things.size(); thing++) {
             Object own = things.get(thing);
-            Check.due(what + ": thing " + thing, x.told(thing, 1, 0), numberOf(own));
+            Check.due(what + ": thing " + thing, x().told(thing, 1, 0), numberOf(own));
             if (own instanceof Base) continue;
             for (int i = 0; i < Array.getLength(own); i++) {
                 Object element = Array.get(own, i);
                 long want = element == null ? -1 : own instanceof int[] ? (Integer) element : identity(element);
-                Check.due(what + ": element " + i + " of " + thing, x.told(thing, 2, i), want);
+                Check.due(what + ": element " + i + " of " + thing, x().told(thing, 2, i), want);
             }
         }
     }
