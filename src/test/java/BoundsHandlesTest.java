@@ -5,6 +5,7 @@ public final class BoundsHandlesTest extends Bounds {
     public static void main(String[] args) {
         asItself();
         asRefused();
+        asFull();
         bindTheLatest();
         bindRefused();
         bindPlain();
@@ -14,28 +15,35 @@ public final class BoundsHandlesTest extends Bounds {
         dropKinds();
         dropSix();
         dropRefused();
+        dropFull();
         permuteOrder();
         permuteDigits();
         permuteTypes();
         permuteRefused();
+        permuteFull();
         filterAt();
         filterOthers();
         filterTypes();
         filterRefused();
+        filterFull();
         foldParameters();
         foldOthers();
         foldNothing();
         foldRefused();
+        foldFull();
         afterResult();
         afterRefused();
+        afterFull();
         guardTruth();
         guardValues();
         guardShapes();
         guardRefused();
+        guardFull();
         caughtFailures();
         caughtValues();
         caughtTypes();
         caughtRefused();
+        caughtFull();
         end("BoundsHandlesTest", 13, 21);
     }
 
@@ -86,6 +94,14 @@ public final class BoundsHandlesTest extends Bounds {
         });
     }
 
+    private static void asFull() {
+        promise(13, "WRONG TYPE; FULL.");
+        given(() -> handles(ofShape(INT, LONG), 59));
+        answers("the 60th", 59, x -> x.as(0, shape(LONG, INT)));
+        given(() -> handles(ofShape(INT, LONG), 60));
+        refused("the 61st", FULL, x -> x.as(0, shape(LONG, INT)));
+    }
+
     private static void asRefused() {
         promise(13, "UNKNOWN; OUTSIDE; WRONG TYPE; FULL.");
         given(HandleMirror::new);
@@ -94,13 +110,10 @@ public final class BoundsHandlesTest extends Bounds {
         unknown("unknown, outside", (x, h) -> x.as(h, 0));
         refused("outside", OUTSIDE, x -> x.as(0, 0));
         refused("wrong type", WRONG_TYPE, x -> x.as(0, shape(INT)));
-        given(() -> handles(ofShape(INT, LONG), 59));
-        answers("the 60th", 59, x -> x.as(0, shape(LONG, INT)));
         given(() -> handles(ofShape(INT, LONG), 60));
         unknown("unknown, outside, full", (x, h) -> x.as(h, 0));
         refused("outside, full", OUTSIDE, x -> x.as(0, shape(INT, INT) | 1L << 56));
         refused("wrong type, full", WRONG_TYPE, x -> x.as(0, shape(INT, LONG)));
-        refused("the 61st", FULL, x -> x.as(0, shape(LONG, INT)));
     }
 
     // ---- 14
@@ -340,6 +353,14 @@ public final class BoundsHandlesTest extends Bounds {
         }
     }
 
+    private static void dropFull() {
+        promise(15, "there are 6; FULL.");
+        given(() -> handles(ofShape(INT), 59));
+        answers("the 60th", 59, x -> x.drop(0, 1, INT));
+        given(() -> handles(ofShape(INT), 60));
+        refused("the 61st", FULL, x -> x.drop(0, 1, INT));
+    }
+
     private static void dropRefused() {
         promise(15, "UNKNOWN; OUTSIDE: at, KIND (NOTHING, too), there are 6; FULL.");
         given(HandleMirror::new);
@@ -349,9 +370,6 @@ public final class BoundsHandlesTest extends Bounds {
         refused("at, full", OUTSIDE, x -> x.drop(0, 2, INT));
         refused("kind, full", OUTSIDE, x -> x.drop(0, 0, NOTHING));
         refused("there are 6, full", OUTSIDE, x -> x.drop(2, 0, INT));
-        refused("the 61st", FULL, x -> x.drop(0, 0, INT));
-        given(() -> handles(ofShape(INT), 59));
-        answers("the 60th", 59, x -> x.drop(0, 1, INT));
     }
 
     // ---- 16
@@ -422,6 +440,14 @@ public final class BoundsHandlesTest extends Bounds {
         refused("turned round wrongly", WRONG_TYPE, x -> x.permute(0, 1, shape(INT, INT, LEFT)));
     }
 
+    private static void permuteFull() {
+        promise(16, "results are not the same; FULL.");
+        given(() -> handles(ofShape(INT, INT), 59));
+        answers("the 60th", 59, x -> x.permute(0, 0, shape(INT, INT)));
+        given(() -> handles(ofShape(INT, INT), 60));
+        refused("the 61st", FULL, x -> x.permute(0, 0, shape(INT, INT)));
+    }
+
     private static void permuteRefused() {
         promise(16, "UNKNOWN; OUTSIDE: SHAPE, order");
         given(HandleMirror::new);
@@ -432,9 +458,6 @@ public final class BoundsHandlesTest extends Bounds {
         refused("order, wrong type, full", OUTSIDE, x -> x.permute(0, 1, shape(LONG, LONG)));
         refused("a further digit, wrong type, full", OUTSIDE, x -> x.permute(0, 10, shape(LONG, LONG)));
         refused("wrong type, full", WRONG_TYPE, x -> x.permute(0, 0, shape(INT, LONG)));
-        refused("the 61st", FULL, x -> x.permute(0, 0, shape(INT, INT)));
-        given(() -> handles(ofShape(INT, INT), 59));
-        answers("the 60th", 59, x -> x.permute(0, 0, shape(INT, INT)));
     }
 
     // ---- 17
@@ -496,6 +519,14 @@ public final class BoundsHandlesTest extends Bounds {
         }
     }
 
+    private static void filterFull() {
+        promise(17, "another result than this KIND; FULL.");
+        given(() -> handles(ofShape(LONG, of(INT, 2)), 59));
+        answers("the 60th", 59, x -> x.filter(2, 1, 0));
+        given(() -> handles(ofShape(LONG, of(INT, 2)), 60));
+        refused("the 61st", FULL, x -> x.filter(2, 1, 0));
+    }
+
     private static void filterRefused() {
         promise(17, "UNKNOWN: h, g; OUTSIDE: at");
         given(() -> ofShape(LONG, of(INT, 2)));
@@ -506,9 +537,6 @@ public final class BoundsHandlesTest extends Bounds {
         unknown("h, full", (x, h) -> x.filter(h, -1, 2));
         refused("outside, wrong type, full", OUTSIDE, x -> x.filter(0, -1, 2));
         refused("wrong type, full", WRONG_TYPE, x -> x.filter(0, 0, 2));
-        refused("the 61st", FULL, x -> x.filter(2, 1, 0));
-        given(() -> handles(ofShape(LONG, of(INT, 2)), 59));
-        answers("the 60th", 59, x -> x.filter(2, 1, 0));
     }
 
     // ---- 18
@@ -582,6 +610,14 @@ public final class BoundsHandlesTest extends Bounds {
         due("nothing and nothing", x.shape(x.fold(1, 1)), shape(NOTHING));
     }
 
+    private static void foldFull() {
+        promise(18, "KINDS are not so; FULL.");
+        given(() -> handles(folded(LONG), 59));
+        answers("the 60th", 59, x -> x.fold(0, 1));
+        given(() -> handles(folded(LONG), 60));
+        refused("the 61st", FULL, x -> x.fold(0, 1));
+    }
+
     private static void foldRefused() {
         promise(18, "UNKNOWN: h, g; WRONG TYPE: KINDS are not so; FULL.");
         given(() -> folded(LONG));
@@ -591,9 +627,6 @@ public final class BoundsHandlesTest extends Bounds {
         unknown("h, full", (x, h) -> x.fold(h, 1));
         unknown("g, full", (x, g) -> x.fold(0, g));
         refused("wrong type, full", WRONG_TYPE, x -> x.fold(1, 0));
-        refused("the 61st", FULL, x -> x.fold(0, 1));
-        given(() -> handles(folded(LONG), 59));
-        answers("the 60th", 59, x -> x.fold(0, 1));
     }
 
     // ---- 19
@@ -620,6 +653,14 @@ public final class BoundsHandlesTest extends Bounds {
         due("six", x.shape(x.after(2, 0)), shape(INT, of(THING, 6)));
     }
 
+    private static void afterFull() {
+        promise(19, "WRONG TYPE; FULL.");
+        given(() -> handles(ofShape(LONG), 59));
+        answers("the 60th", 59, x -> x.after(0, 0));
+        given(() -> handles(ofShape(LONG), 60));
+        refused("the 61st", FULL, x -> x.after(0, 0));
+    }
+
     private static void afterRefused() {
         promise(19, "UNKNOWN: h, g; WRONG TYPE; FULL.");
         given(() -> ofShape(LONG));
@@ -629,9 +670,6 @@ public final class BoundsHandlesTest extends Bounds {
         unknown("h, full", (x, h) -> x.after(h, 1));
         unknown("g, full", (x, g) -> x.after(1, g));
         refused("wrong type, full", WRONG_TYPE, x -> x.after(1, 0));
-        refused("the 61st", FULL, x -> x.after(0, 0));
-        given(() -> handles(ofShape(LONG), 59));
-        answers("the 60th", 59, x -> x.after(0, 0));
     }
 
     // ---- 20
@@ -707,6 +745,14 @@ public final class BoundsHandlesTest extends Bounds {
         refused("another result", WRONG_TYPE, x -> x.guard(4, 0, 3));
     }
 
+    private static void guardFull() {
+        promise(20, "h and g have not one SHAPE; FULL.");
+        given(() -> handles(guarded(TRUTH), 59));
+        answers("the 60th", 59, x -> x.guard(2, 0, 1));
+        given(() -> handles(guarded(TRUTH), 60));
+        refused("the 61st", FULL, x -> x.guard(2, 0, 1));
+    }
+
     private static void guardRefused() {
         promise(20, "UNKNOWN: test, h, g; WRONG TYPE");
         given(() -> guarded(TRUTH));
@@ -718,9 +764,6 @@ public final class BoundsHandlesTest extends Bounds {
         unknown("test, full", (x, h) -> x.guard(h, 0, 1));
         unknown("g, wrong type, full", (x, h) -> x.guard(0, 0, h));
         refused("wrong type, full", WRONG_TYPE, x -> x.guard(0, 0, 1));
-        refused("the 61st", FULL, x -> x.guard(2, 0, 1));
-        given(() -> handles(guarded(TRUTH), 59));
-        answers("the 60th", 59, x -> x.guard(2, 0, 1));
     }
 
     // ---- 21
@@ -777,6 +820,14 @@ public final class BoundsHandlesTest extends Bounds {
         answers("h has no parameters", 2, x -> x.caught(1, 0, 0));
     }
 
+    private static void caughtFull() {
+        promise(21, "INT, then h's first ones; FULL.");
+        given(() -> handles(guarded(LONG, INT), 59));
+        answers("the 60th", 59, x -> x.caught(0, 8, 0));
+        given(() -> handles(guarded(LONG, INT), 60));
+        refused("the 61st", FULL, x -> x.caught(0, 8, 0));
+    }
+
     private static void caughtRefused() {
         promise(21, "UNKNOWN: h, g; OUTSIDE: failure; WRONG TYPE");
         given(() -> guarded(LONG, INT));
@@ -787,8 +838,5 @@ public final class BoundsHandlesTest extends Bounds {
         unknown("h, outside, full", (x, h) -> x.caught(h, -1, 0));
         refused("outside, wrong type, full", OUTSIDE, x -> x.caught(0, -1, 3));
         refused("wrong type, full", WRONG_TYPE, x -> x.caught(0, 0, 3));
-        refused("the 61st", FULL, x -> x.caught(0, 8, 0));
-        given(() -> handles(guarded(LONG, INT), 59));
-        answers("the 60th", 59, x -> x.caught(0, 8, 0));
     }
 }

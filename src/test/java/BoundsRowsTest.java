@@ -13,12 +13,15 @@ public final class BoundsRowsTest extends Bounds {
         spreadSeven();
         spreadTypes();
         spreadRefused();
+        spreadFull();
         collectWorked();
         collectOutside();
         collectTypes();
         collectRefused();
+        collectFull();
         variedTypes();
         variedRefused();
+        variedFull();
         elementShapes();
         elementNull();
         elementIndex();
@@ -212,6 +215,14 @@ public final class BoundsRowsTest extends Bounds {
         answers("none is to be turned", 1, x -> x.spread(0, ROW, 0));
     }
 
+    private static void spreadFull() {
+        promise(22, "WRONG TYPE; FULL.");
+        given(() -> handles(ofShape(INT, CHAR), 59));
+        answers("the 60th", 59, x -> x.spread(0, ROWS, 0));
+        given(() -> handles(ofShape(INT, CHAR), 60));
+        refused("the 61st", FULL, x -> x.spread(0, ROWS, 0));
+    }
+
     private static void spreadRefused() {
         promise(22, "UNKNOWN; OUTSIDE: the KIND is no ROW");
         given(HandleMirror::new);
@@ -220,9 +231,6 @@ public final class BoundsRowsTest extends Bounds {
         unknown("unknown, outside, full", (x, h) -> x.spread(h, INT, -1));
         refused("outside, wrong type, full", OUTSIDE, x -> x.spread(0, CLASS_ROW, 2));
         refused("wrong type, full", WRONG_TYPE, x -> x.spread(0, ROWS, 1));
-        refused("the 61st", FULL, x -> x.spread(0, ROWS, 0));
-        given(() -> handles(ofShape(INT, CHAR), 59));
-        answers("the 60th", 59, x -> x.spread(0, ROWS, 0));
     }
 
     // ---- 23
@@ -289,6 +297,14 @@ public final class BoundsRowsTest extends Bounds {
         refused("there is none, six", WRONG_TYPE, x -> x.collect(0, ROWS, 6));
     }
 
+    private static void collectFull() {
+        promise(23, "(there is none); FULL.");
+        given(() -> handles(ofShape(INT, ROWS), 59));
+        answers("the 60th", 59, x -> x.collect(0, ROWS, 6));
+        given(() -> handles(ofShape(INT, ROWS), 60));
+        refused("the 61st", FULL, x -> x.collect(0, ROWS, 6));
+    }
+
     private static void collectRefused() {
         promise(23, "UNKNOWN; OUTSIDE: the KIND is no ROW, n is below 0");
         given(HandleMirror::new);
@@ -299,9 +315,6 @@ public final class BoundsRowsTest extends Bounds {
         refused("above 6, wrong type, full", OUTSIDE, x -> x.collect(0, ROW, 7));
         refused("no row, wrong type, full", OUTSIDE, x -> x.collect(0, THING, 0));
         refused("wrong type, full", WRONG_TYPE, x -> x.collect(0, ROW, 6));
-        refused("the 61st", FULL, x -> x.collect(0, ROWS, 6));
-        given(() -> handles(ofShape(INT, ROWS), 59));
-        answers("the 60th", 59, x -> x.collect(0, ROWS, 6));
     }
 
     // ---- 24
@@ -326,6 +339,14 @@ public final class BoundsRowsTest extends Bounds {
         due("h is as it was", ints(x, 5).run(1, false, INT), WRONG_TYPE);
     }
 
+    private static void variedFull() {
+        promise(24, "(there is none); FULL.");
+        given(() -> handles(ofShape(INT, ROWS), 59));
+        answers("the 60th", 59, x -> x.varied(0));
+        given(() -> handles(ofShape(INT, ROWS), 60));
+        refused("the 61st", FULL, x -> x.varied(0));
+    }
+
     private static void variedRefused() {
         promise(24, "h, VARIED. UNKNOWN; WRONG TYPE");
         given(HandleMirror::new);
@@ -333,9 +354,6 @@ public final class BoundsRowsTest extends Bounds {
         given(() -> handles(ofShape(INT, ROWS), 60));
         unknown("unknown, full", (x, h) -> x.varied(h));
         refused("wrong type, full", WRONG_TYPE, x -> x.varied(1));
-        refused("the 61st", FULL, x -> x.varied(0));
-        given(() -> handles(ofShape(INT, ROWS), 59));
-        answers("the 60th", 59, x -> x.varied(0));
     }
 
     // ---- 25

@@ -9,6 +9,7 @@ public final class BoundsStepsTest extends Bounds {
         fullEndsTheRun();
         the8000thMade();
         madeByRunsAndBind();
+        turnedByWidening();
         turnedToABox();
         turnedOutOfABox();
         turnedFromThingAndNumber();
@@ -286,6 +287,20 @@ public final class BoundsStepsTest extends Bounds {
         HandleMirror x = new HandleMirror();
         x.same(kind);
         return x;
+    }
+
+    private static void turnedByWidening() {
+        sentence("Terms", "f PLAIN, t PLAIN: by WIDENING (or as it is).");
+        for (int f = 0; f < 8; f++) {
+            for (int t = 0; t < 8; t++) {
+                int from = f;
+                int to = t;
+                given(() -> same(to));
+                bounded("parameter " + f + " to " + t, widens(f, t), f == t ? 0 : 1, WRONG_TYPE, x -> x.as(0, shape(to, from)));
+                given(() -> same(from));
+                bounded("result " + f + " to " + t, widens(f, t), f == t ? 0 : 1, WRONG_TYPE, x -> x.as(0, shape(to, from)));
+            }
+        }
     }
 
     private static void turnedToABox() {

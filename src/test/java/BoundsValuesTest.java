@@ -26,11 +26,13 @@ public final class BoundsValuesTest extends Bounds {
         finalFields();
         staticFields();
         receiverIsNone();
+        whatComesIsMade();
         sumsRunOver();
         sumsAskInOrder();
         quotients();
         elementsTaken();
         elementsPut();
+        elementsPutThemselves();
         elementsPutCast();
         elementsPutInOrder();
         raised();
@@ -420,6 +422,48 @@ public final class BoundsValuesTest extends Bounds {
         due("ahead of size", ints(x, -9).direct(0, ROW + INT), NULL);
     }
 
+    /** A quotient by 1, an element taken, a length, a tag before, a weight: what an act brings of a long, of a kind. */
+    private static HandleMirror acted(int act, int kind, int n) {
+        HandleMirror x = new HandleMirror();
+        long[] shapes = {shape(kind, INT), shape(kind, INT, INT), shape(kind, ROW + INT, INT), shape(kind, ROW + INT, INT, INT),
+            0, 0, shape(kind, INT), shape(kind)};
+        x.row(ROW + INT, act == 3 ? n : 1);
+        x.object(0, n);
+        x.element(1, ROW + INT);
+        if (act == 2) {
+            x.give(ROW + INT, 0);
+            ints(x, 0, n).run(0, true, NOTHING);
+        }
+        x.method(0, 0, act >= 6 ? 0 : STATIC, act, shapes[act]);
+        if (act >= 6) x.give(BASE, 1);
+        if (act == 2 || act == 3) x.give(ROW + INT, 0);
+        if (act <= 1) ints(x, n);
+        if (act == 1) ints(x, 1);
+        if (act == 2 || act == 3 || act == 6) ints(x, 0);
+        if (act == 3) ints(x, 0);
+        return x;
+    }
+
+    private static void whatComesIsMade() {
+        sentence("Terms", "What comes is MADE of a long, of the result's KIND (but 4, 5)");
+        int[] acts = {0, 1, 2, 3, 6, 7};
+        for (int act : acts) {
+            int[] numbers = act == 3 ? new int[] {1, 2, 7, 8} : new int[] {LOWEST, -129, -1, 0, 1, 8, 9, 128, 65536, HIGHEST};
+            for (int n : numbers) {
+                for (int kind : KINDS) {
+                    HandleMirror x = acted(act, kind, n);
+                    boolean size = isRow(kind) && n < 0;
+                    due("act " + act + " of " + n + " for " + kind, x.direct(0, kind), size ? SIZE : 1);
+                    due("made", x.count(4), kind > NOTHING && !size ? 1 : 0);
+                    if (size) continue;
+                    int plain = kind >= BOX && kind < NUMBER ? kind - BOX : kind;
+                    due("its kind", x.result(1), kind == THING || kind == NUMBER ? BOX + LONG : kind);
+                    due("its bits", x.result(2), kind == NOTHING ? 0 : isRow(kind) ? Math.min(n, 8) : castTo(plain, n));
+                }
+            }
+        }
+    }
+
     private static void sumsRunOver() {
         sentence("Terms", "0 SUM: 1000 times the METHOD's number and THE NUMBERS of all VALUES (the RECEIVER's, too)");
         HandleMirror none = members(new HandleMirror(), 23);
@@ -580,6 +624,23 @@ public final class BoundsValuesTest extends Bounds {
             case DOUBLE: return Double.doubleToRawLongBits((double) n);
             default: return n;
         }
+    }
+
+    private static void elementsPutThemselves() {
+        sentence("Terms", "into others the VALUE itself");
+        HandleMirror x = new HandleMirror();
+        x.method(0, 0, STATIC, 3, shape(INT, CLASS_ROW, INT, THING));
+        x.row(CLASS_ROW + 1, 8);
+        x.object(1, 5);
+        x.object(3, 5);
+        int[] things = {1, 2, NONE, 2};
+        for (int i = 0; i < 4; i++) {
+            x.give(CLASS_ROW, 0);
+            ints(x, 2 * i).give(THING, things[i]);
+            brings("thing " + things[i], x, x.direct(0, INT), INT, 8);
+        }
+        for (int i = 0; i < 8; i++) due("element " + i, x.told(0, 2, i), i % 2 == 0 ? things[i / 2] : NONE);
+        due("nothing is made", x.count(4), 0);
     }
 
     private static void elementsPutCast() {
