@@ -58,7 +58,7 @@ public final class HandleMirror {
         boolean box = Kinds.isBox(kind);
         int plain = box ? kind - Kinds.BOX : kind;
         if (!Kinds.isPlain(plain) || !Numbers.isNumber(plain, bits)) return OUTSIDE;
-        if (argCount >= MOST_ARGS) return FULL;
+        if (argCount >= MOST_ARGS || box && !heap.hasRoom()) return FULL;
         long value = Numbers.ofBits(plain, bits);
         return addArg(kind, box ? heap.newThing(kind, value, 0) : value);
     }
@@ -764,6 +764,8 @@ public final class HandleMirror {
     /** All things there are; and what is asked of values, and made. What goes wrong is raised, and 0 comes. */
     private static final class Heap {
         private static final int MOST_NAMED = 60, MOST_MADE = 8000;
+        // far more than 512 calls can bring; calls after those may not fill the list without end
+        private static final int MOST_KEPT = MOST_MADE + MOST_NAMED + 1000;
 
         private final Trouble trouble;
         private final ArrayList<Thing> things;
@@ -797,6 +799,11 @@ public final class HandleMirror {
             named[namedCount] = thing;
             namedCount++;
             return thing.number;
+        }
+
+        /** Whether one more box may come that is neither named nor counted as made. */
+        boolean hasRoom() {
+            return things.size() < MOST_KEPT;
         }
 
         /** A thing that is not counted as made. */

@@ -31,7 +31,23 @@ public final class AnyCallsTest extends Bounds {
             due("the same without refused calls, seed " + seed, test.again(seed, false).equals(end) ? 1 : 0, 1);
         }
         for (int seed = 0; seed < 20; seed++) new AnyCallsTest(seed).playLong();
+        boxesWithoutEnd();
         Check.end("AnyCallsTest");
+    }
+
+    /** BOXES that no call can reach any more are not heaped up for ever: all that 512 calls bring is kept, and then FULL. */
+    private static void boxesWithoutEnd() {
+        HandleMirror x = new HandleMirror();
+        int refused = 0;
+        for (int i = 0; i < 100000; i++) {
+            int answer = x.arg(10 + i % 8, i);
+            due("call " + i, answer, i < 512 || answer > 0 ? i % 6 + 1 : FULL);
+            if (answer == FULL) refused++;
+            if (i % 6 == 5) x.forget();
+        }
+        due("boxes are refused in the end", refused > 80000 ? 1 : 0, 1);
+        x.forget();
+        due("what is no box still comes", x.arg(INT, 1), 1);
     }
 
     /** All calls again, or all but those that change nothing; what can be asked in the end. */

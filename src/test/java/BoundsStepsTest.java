@@ -4,6 +4,7 @@ public final class BoundsStepsTest extends Bounds {
         mostHandles();
         the201stStep();
         the201stStepOfEachKind();
+        the200thWithinAllOthers();
         spentEndsTheRun();
         failuresCaught();
         fullEndsTheRun();
@@ -125,6 +126,48 @@ public final class BoundsStepsTest extends Bounds {
                 else ints(x, 7);
                 due("kind " + what + ", over by " + over, x.run(h, true, result), over == 0 ? 1 : SPENT);
                 due("its steps", x.last(0), 200);
+            }
+        }
+    }
+
+    /**
+     * A handle of six THINGS that works itself in a circle of 39 steps, each time with its values one place on, till a
+     * value comes to a place where a LEFT is asked for and is none. That is its 197th step, in which all others stand open.
+     */
+    private static int circling(HandleMirror x, int place, int around) {
+        int[] kinds = {THING, THING, THING, THING, THING, THING};
+        long things = shape(NOTHING, kinds);
+        kinds[place] = LEFT;
+        int circle = x.site(x.permute(summing(x, shape(NOTHING)), 0, things));
+        int on = circle;
+        for (int i = 0; i < 35; i++) on = x.site(on);
+        int asking = x.as(x.as(x.permute(on, 54321, things), shape(NOTHING, kinds)), things);
+        x.target(circle, asking);
+        int h = circle;
+        for (int i = 0; i < around; i++) h = x.site(h);
+        return h;
+    }
+
+    private static void fiveLeftOneRight(HandleMirror x, int right) {
+        for (int i = 0; i < 6; i++) x.give(THING, x.object(i == right ? 2 : 1, i));
+    }
+
+    private static void the200thWithinAllOthers() {
+        sentence("Terms", "WORKED with a VALUE of each PARAMETER's KIND");
+        for (int place = 0; place < 6; place++) {
+            for (int around = 2; around <= 4; around++) {
+                HandleMirror x = new HandleMirror();
+                int h = circling(x, place, around);
+                fiveLeftOneRight(x, (place + 5) % 6);
+                due("place " + place + ", within " + around, x.run(h, true, NOTHING), around <= 3 ? CAST : SPENT);
+                takes("within " + around, x, Math.min(197 + around, 200), 1, 0, around <= 3 ? 2 : 9);
+            }
+            for (int around = 1; around <= 2; around++) {
+                HandleMirror x = new HandleMirror();
+                int h = x.caught(circling(x, place, around), 2, summing(x, shape(NOTHING, INT)));
+                fiveLeftOneRight(x, (place + 5) % 6);
+                due("caught, within " + around, x.run(h, true, NOTHING), around == 1 ? 1 : SPENT);
+                takes("caught, within " + around, x, 200, around, 1, around == 1 ? 0 : 9);
             }
         }
     }

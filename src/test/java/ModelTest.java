@@ -7,7 +7,7 @@ import java.util.Random;
  * answer the same. Each run keeps to a few kinds, so that handles fit one another, and asks the model what there is.
  */
 public final class ModelTest extends Check {
-    private static final int MOST_CALLS = 512, SEEDS = 4000;
+    private static final int MOST_CALLS = 512, CHANGING_CALLS = 400, SEEDS = 4000;
     private static final int[] EDGES = {Integer.MIN_VALUE, Integer.MAX_VALUE, -2, -1, 0, 1, 6, 7, 8, 9, 15, 16, 19, 28, 35, 45, 60, 255};
     private static final long[] BITS = {0, 1, -1, 2, 3, 7, 8, 9, 127, 128, 255, 256, 32768, 65535, 1L << 31, (1L << 31) - 1,
         1L << 24, (1L << 24) + 1, 0x7f800000L, 0x7f800001L, 0x3f800000L, 0xbf000000L, 0x5f000000L, 0x7ff0000000000000L,
@@ -52,14 +52,15 @@ public final class ModelTest extends Check {
         if (seed % 40 == 7) spinMade();
         if (seed % 40 == 9) spinFailures();
         if (seed % 10 == 3) crowd();
-        while (said.size() < MOST_CALLS && !wrong) {
+        while (said.size() < CHANGING_CALLS && !wrong) {
             int sort = random.nextInt(100);
             if (sort < 14) things();
             else if (sort < 26) members();
-            else if (sort < 58) handles();
-            else if (sort < 86) runs();
+            else if (sort < 62) handles();
+            else if (sort < 94) runs();
             else asks();
         }
+        while (said.size() < MOST_CALLS && !wrong) asks();
     }
 
     /** Whether both answered the same; what was said is shown once if they did not. */
@@ -90,7 +91,7 @@ public final class ModelTest extends Check {
     }
 
     private int upTo(int most) {
-        return seldom() ? edge() : random.nextInt(most + 1);
+        return seldom() ? edge() : seldom() ? most + 1 : random.nextInt(most + 1);
     }
 
     private int kind() {
@@ -457,9 +458,9 @@ public final class ModelTest extends Check {
         switch (random.nextInt(12)) {
             case 0: anyRun(); break;
             case 1: case 2: case 3: fittedDirect(); break;
-            case 4: both("keep()", HandleMirror::keep, Model::keep); break;
             default: fittedRun();
         }
+        if (random.nextInt(6) == 0) keep();
     }
 
     private void anyRun() {
@@ -474,11 +475,11 @@ public final class ModelTest extends Check {
     private void heardOfRun() {
         for (int what = 0; what < 4; what++) {
             int asked = what;
-            if (random.nextBoolean()) both("last(" + what + ")", x -> x.last(asked), y -> y.last(asked));
+            if (random.nextInt(3) == 0) both("last(" + what + ")", x -> x.last(asked), y -> y.last(asked));
         }
         for (int what = 1; what < 3; what++) {
             int asked = what;
-            if (random.nextBoolean()) both("result(" + what + ")", x -> x.result(asked), y -> y.result(asked));
+            if (random.nextInt(3) == 0) both("result(" + what + ")", x -> x.result(asked), y -> y.result(asked));
         }
     }
 
@@ -511,6 +512,19 @@ public final class ModelTest extends Check {
         return seldom() ? kind() : (int) (asked & 255) - 1;
     }
 
+    /** What came is named, and looked into. */
+    private void keep() {
+        int thing = (int) both("keep()", HandleMirror::keep, Model::keep);
+        if (thing < 0 || wrong || thing >= y.things.size()) return;
+        toldOf(thing, 1, 0);
+        Object[] elements = y.things.get(thing).elements;
+        for (int i = 0; elements != null && i < elements.length; i++) toldOf(thing, 2, i);
+    }
+
+    private void toldOf(int thing, int what, int i) {
+        both("told(" + thing + ", " + what + ", " + i + ")", x -> x.told(thing, what, i), y -> y.told(thing, what, i));
+    }
+
     private void asks() {
         int what = upTo(3);
         int h = handle();
@@ -522,7 +536,7 @@ public final class ModelTest extends Check {
             case 1: both("count(" + counted + ")", x -> x.count(counted), y -> y.count(counted)); break;
             case 2: both("last(" + what + ")", x -> x.last(what), y -> y.last(what)); break;
             case 3: both("result(" + what + ")", x -> x.result(what), y -> y.result(what)); break;
-            default: both("told(" + thing + ", " + what + ", " + i + ")", x -> x.told(thing, what, i), y -> y.told(thing, what, i));
+            default: toldOf(thing, what, i);
         }
     }
 
