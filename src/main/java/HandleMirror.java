@@ -764,7 +764,7 @@ public final class HandleMirror {
     /** All things there are; and what is asked of values, and made. What goes wrong is raised, and 0 comes. */
     private static final class Heap {
         private static final int MOST_NAMED = 60, MOST_MADE = 8000;
-        // far more than 512 calls can bring; calls after those may not fill the list without end
+        // more than 512 calls can bring; calls after those may not fill the list without end
         private static final int MOST_KEPT = MOST_MADE + MOST_NAMED + 1000;
 
         private final Trouble trouble;

@@ -153,6 +153,18 @@ abstract class Bounds extends Check {
 
     // ---- situations
 
+    /** So many parameters of one kind. */
+    static int[] of(int kind, int size) {
+        int[] kinds = new int[size];
+        for (int i = 0; i < size; i++) kinds[i] = kind;
+        return kinds;
+    }
+
+    /** A handle of so many ints that brings one of them. */
+    static int picking(HandleMirror x, int size, int of) {
+        return x.permute(x.same(INT), of, shape(INT, of(INT, size)));
+    }
+
     /** Objects of BASE, so many. */
     static HandleMirror things(int n) {
         HandleMirror x = new HandleMirror();

@@ -47,12 +47,6 @@ public final class BoundsHandlesTest extends Bounds {
         end("BoundsHandlesTest", 13, 21);
     }
 
-    private static int[] of(int kind, int size) {
-        int[] kinds = new int[size];
-        for (int i = 0; i < size; i++) kinds[i] = kind;
-        return kinds;
-    }
-
     /** The handle 0 of (INT) INT, and the handle 1 of a shape, which has the same result for all values. */
     private static HandleMirror ofShape(int result, int... parameters) {
         HandleMirror x = new HandleMirror();
@@ -65,11 +59,6 @@ public final class BoundsHandlesTest extends Bounds {
     private static int brought(HandleMirror x, int result, int... parameters) {
         int h = summing(x, shape(result));
         return parameters.length == 0 ? h : x.permute(h, 0, shape(result, parameters));
-    }
-
-    /** A handle of so many ints that brings one of them. */
-    private static int picking(HandleMirror x, int size, int of) {
-        return x.permute(x.same(INT), of, shape(INT, of(INT, size)));
     }
 
     // ---- 13

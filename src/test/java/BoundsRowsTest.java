@@ -42,12 +42,6 @@ public final class BoundsRowsTest extends Bounds {
         end("BoundsRowsTest", 22, 30);
     }
 
-    private static int[] of(int kind, int size) {
-        int[] kinds = new int[size];
-        for (int i = 0; i < size; i++) kinds[i] = kind;
-        return kinds;
-    }
-
     /** The handle 0 has a shape and brings a member's number times 1000; there are no others. */
     private static HandleMirror ofShape(int result, int... parameters) {
         HandleMirror x = new HandleMirror();
@@ -102,11 +96,6 @@ public final class BoundsRowsTest extends Bounds {
         int turned = x.permute(h, 1, shape(INT, LONG, LONG));
         x.give(ROWS, 0);
         brings("2 by 1", x, x.run(x.spread(turned, ROWS, 2), true, INT), INT, 2);
-    }
-
-    /** A handle of so many ints that brings one of them. */
-    private static int picking(HandleMirror x, int size, int of) {
-        return x.permute(x.same(INT), of, shape(INT, of(INT, size)));
     }
 
     private static void spreadValues() {

@@ -30,12 +30,6 @@ public final class BoundsRunsTest extends Bounds {
         end("BoundsRunsTest", 31, 36);
     }
 
-    private static int[] of(int kind, int size) {
-        int[] kinds = new int[size];
-        for (int i = 0; i < size; i++) kinds[i] = kind;
-        return kinds;
-    }
-
     /** The handle 0 divides two ints. */
     private static HandleMirror dividing() {
         HandleMirror x = new HandleMirror();

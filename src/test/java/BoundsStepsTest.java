@@ -135,7 +135,7 @@ public final class BoundsStepsTest extends Bounds {
      * value comes to a place where a LEFT is asked for and is none. That is its 197th step, in which all others stand open.
      */
     private static int circling(HandleMirror x, int place, int around) {
-        int[] kinds = {THING, THING, THING, THING, THING, THING};
+        int[] kinds = of(THING, 6);
         long things = shape(NOTHING, kinds);
         kinds[place] = LEFT;
         int circle = x.site(x.permute(summing(x, shape(NOTHING)), 0, things));
@@ -466,12 +466,6 @@ public final class BoundsStepsTest extends Bounds {
             int h = summing(x, shape(kind));
             brings(kind + " to nothing", x, x.run(h, false, NOTHING), NOTHING, 0);
         }
-    }
-
-    private static int[] of(int kind, int size) {
-        int[] kinds = new int[size];
-        for (int i = 0; i < size; i++) kinds[i] = kind;
-        return kinds;
     }
 
     private static void adaptedAsMany() {
